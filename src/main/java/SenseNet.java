@@ -560,7 +560,7 @@ public final class SenseNet {
         }
 
         boolean has(int word, int sense) {
-            return rank(word, sense) != NONE;
+            return rankOf(word, sense) != NONE;
         }
 
         boolean anyHas(int sense) {
@@ -613,7 +613,7 @@ public final class SenseNet {
         int drop(int word, int sense) {
             int size = at(sizes, word) - 1;
             int row = word * MOST_OF_A_WORD;
-            for (int rank = rank(word, sense); rank >= 0 && rank < size; rank++) {
+            for (int rank = rankOf(word, sense); rank >= 0 && rank < size; rank++) {
                 put(given, row + rank, at(given, row + rank + 1));
             }
             put(sizes, word, size);
@@ -641,7 +641,7 @@ public final class SenseNet {
             return before;
         }
 
-        private int rank(int word, int sense) {
+        private int rankOf(int word, int sense) {
             int size = at(sizes, word);
             for (int rank = 0; rank < size; rank++) {
                 if (at(given, word * MOST_OF_A_WORD + rank) == sense) {

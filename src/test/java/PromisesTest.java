@@ -32,6 +32,7 @@ public final class PromisesTest {
         likenessEdges();
         choices();
         worths();
+        greatestAskedFirst();
         ties();
         sameWordTwice();
         longestSentence();
@@ -610,6 +611,17 @@ public final class PromisesTest {
         for (int no : new int[] {-1, 3, 6, Integer.MAX_VALUE, Integer.MIN_VALUE}) {
             Due.is(26, "place " + no, () -> x.chosen(no, 0), OUT);
         }
+    }
+
+    private static void greatestAskedFirst() {
+        SenseNet x = diamond();
+        words(x, new int[] {0, 3, 5}, new int[] {1, 5}, new int[] {2, 4});
+        for (int word = 0; word < 3; word++) {
+            x.say(word);
+        }
+        // 5, 5, 4: 10000 + 5000 + 5000; the first senses: 5000 + 5000 + 3333.
+        Due.is(25, "nothing asked before", () -> x.greatestWorth(0), 20000);
+        Due.is(24, "the same", () -> x.bestWorth(0), 20000);
     }
 
     private static void ties() {
