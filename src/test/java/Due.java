@@ -1,13 +1,23 @@
 /** Compares answers with those that are due, and counts what is wrong. */
 final class Due {
+    static final String OUT = "IndexOutOfBoundsException";
+    static final String STATE = "IllegalStateException";
+    static final String ARGUMENT = "IllegalArgumentException";
+
     interface Call {
         int answer();
     }
 
     private static int wrong = 0;
     private static int asked = 0;
+    private static String sentence = "";
 
     private Due() {
+    }
+
+    /** The document's sentence that the answers from here on are about. */
+    static void sentence(String text) {
+        sentence = text;
     }
 
     /** The answer of a call as a text; the exception's plain name if it throws one. */
@@ -17,6 +27,14 @@ final class Due {
         } catch (RuntimeException e) {
             return e.getClass().getSimpleName();
         }
+    }
+
+    static void is(String what, Call call, String want) {
+        compare("'" + sentence + "' " + what, of(call), want);
+    }
+
+    static void is(String what, Call call, int want) {
+        is(what, call, String.valueOf(want));
     }
 
     static void is(int promise, String what, Call call, String want) {

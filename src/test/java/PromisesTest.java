@@ -1,8 +1,5 @@
 /** Each promise by itself: ordinary inputs, the edges, wrong inputs. */
 public final class PromisesTest {
-    private static final String OUT = "IndexOutOfBoundsException";
-    private static final String STATE = "IllegalStateException";
-    private static final String ARGUMENT = "IllegalArgumentException";
     private static final int[] NO_SENSES = {-1, 2, 29, 30, 32, 64, Integer.MAX_VALUE, Integer.MIN_VALUE};
     private static final int[] NO_MEASURES = {-1, 3, Integer.MAX_VALUE, Integer.MIN_VALUE};
 
@@ -40,31 +37,13 @@ public final class PromisesTest {
         Due.end();
     }
 
-    private static SenseNet net(int senses) {
-        SenseNet x = new SenseNet();
-        for (int i = 0; i < senses; i++) {
-            x.addSense();
-        }
-        return x;
-    }
-
-    /** A word for each row, with the senses of the row. */
-    private static void words(SenseNet x, int[]... rows) {
-        for (int[] row : rows) {
-            int word = x.addWord();
-            for (int sense : row) {
-                x.give(word, sense);
-            }
-        }
-    }
-
     private static void newObject() {
         SenseNet x = new SenseNet();
         Due.is(1, "senses", x::senses, 0);
         Due.is(1, "hush", x::hush, 0);
         Due.is(1, "choices", x::choices, 1);
-        Due.is(1, "parents(0)", () -> x.parents(0), OUT);
-        Due.is(1, "say(0)", () -> x.say(0), OUT);
+        Due.is(1, "parents(0)", () -> x.parents(0), Due.OUT);
+        Due.is(1, "say(0)", () -> x.say(0), Due.OUT);
         Due.is(1, "bestWorth(1)", () -> x.bestWorth(1), 0);
         Due.is(1, "first sense", x::addSense, 0);
         Due.is(1, "first word", x::addWord, 0);
@@ -80,77 +59,77 @@ public final class PromisesTest {
             Due.is(2, "parents of the new one", () -> x.parents(number), 0);
             Due.is(2, "mass of the new one", () -> x.mass(number), 0);
         }
-        Due.is(2, "31st addSense", x::addSense, STATE);
+        Due.is(2, "31st addSense", x::addSense, Due.STATE);
         Due.is(2, "senses", x::senses, (1 << 30) - 1);
         Due.is(2, "remove", () -> x.remove(7), 0);
-        Due.is(2, "addSense after a removal: 30 were added in all", x::addSense, STATE);
-        SenseNet y = net(2);
+        Due.is(2, "addSense after a removal: 30 were added in all", x::addSense, Due.STATE);
+        SenseNet y = Nets.of(2);
         y.remove(1);
         Due.is(2, "numbers are not used again", y::addSense, 2);
     }
 
     private static void link() {
-        SenseNet x = net(6);
+        SenseNet x = Nets.of(6);
         Due.is(3, "link", () -> x.link(0, 1), 1);
-        Due.is(3, "link again", () -> x.link(0, 1), STATE);
+        Due.is(3, "link again", () -> x.link(0, 1), Due.STATE);
         Due.is(3, "second parent", () -> x.link(0, 2), 2);
         Due.is(3, "third parent", () -> x.link(0, 3), 3);
         Due.is(3, "fourth parent", () -> x.link(0, 4), 4);
-        Due.is(3, "fifth parent", () -> x.link(0, 5), STATE);
+        Due.is(3, "fifth parent", () -> x.link(0, 5), Due.STATE);
         Due.is(3, "parents", () -> x.parents(0), 0b11110);
-        Due.is(3, "itself", () -> x.link(5, 5), STATE);
-        SenseNet y = net(2);
+        Due.is(3, "itself", () -> x.link(5, 5), Due.STATE);
+        SenseNet y = Nets.of(2);
         for (int no : NO_SENSES) {
-            Due.is(3, "link(" + no + ", 0)", () -> y.link(no, 0), OUT);
-            Due.is(3, "link(0, " + no + ")", () -> y.link(0, no), OUT);
-            Due.is(3, "link(" + no + ", " + no + ")", () -> y.link(no, no), OUT);
+            Due.is(3, "link(" + no + ", 0)", () -> y.link(no, 0), Due.OUT);
+            Due.is(3, "link(0, " + no + ")", () -> y.link(0, no), Due.OUT);
+            Due.is(3, "link(" + no + ", " + no + ")", () -> y.link(no, no), Due.OUT);
         }
         y.remove(1);
-        Due.is(3, "removed sense", () -> y.link(1, 0), OUT);
-        Due.is(3, "removed parent", () -> y.link(0, 1), OUT);
+        Due.is(3, "removed sense", () -> y.link(1, 0), Due.OUT);
+        Due.is(3, "removed parent", () -> y.link(0, 1), Due.OUT);
     }
 
     private static void linkKeepsOrder() {
-        SenseNet x = net(5);
+        SenseNet x = Nets.of(5);
         x.link(0, 1);
         x.link(1, 2);
         x.link(2, 3);
-        Due.is(3, "below its child", () -> x.link(1, 0), STATE);
-        Due.is(3, "below a sense far below", () -> x.link(3, 0), STATE);
+        Due.is(3, "below its child", () -> x.link(1, 0), Due.STATE);
+        Due.is(3, "below a sense far below", () -> x.link(3, 0), Due.STATE);
         Due.is(3, "past a level", () -> x.link(0, 3), 2);
         Due.is(3, "parents unchanged", () -> x.parents(3), 0);
         x.unlink(1, 2);
-        Due.is(3, "still above by the short way", () -> x.link(3, 0), STATE);
+        Due.is(3, "still above by the short way", () -> x.link(3, 0), Due.STATE);
         x.unlink(0, 3);
         Due.is(3, "free now", () -> x.link(3, 0), 1);
         Due.is(3, "above", () -> x.above(2), 0b1011);
     }
 
     private static void unlink() {
-        SenseNet x = net(4);
+        SenseNet x = Nets.of(4);
         x.link(0, 1);
         x.link(0, 2);
-        Due.is(4, "no parent", () -> x.unlink(0, 3), STATE);
-        Due.is(4, "the wrong way round", () -> x.unlink(1, 0), STATE);
-        Due.is(4, "itself", () -> x.unlink(0, 0), STATE);
+        Due.is(4, "no parent", () -> x.unlink(0, 3), Due.STATE);
+        Due.is(4, "the wrong way round", () -> x.unlink(1, 0), Due.STATE);
+        Due.is(4, "itself", () -> x.unlink(0, 0), Due.STATE);
         Due.is(4, "unlink", () -> x.unlink(0, 1), 1);
-        Due.is(4, "again", () -> x.unlink(0, 1), STATE);
+        Due.is(4, "again", () -> x.unlink(0, 1), Due.STATE);
         Due.is(4, "parents", () -> x.parents(0), 0b100);
         Due.is(4, "below", () -> x.below(1), 0);
         Due.is(4, "the last one", () -> x.unlink(0, 2), 0);
         Due.is(4, "depth", () -> x.depth(0), 0);
         x.link(0, 1);
         x.link(1, 2);
-        Due.is(4, "above but no parent", () -> x.unlink(0, 2), STATE);
-        SenseNet y = net(2);
+        Due.is(4, "above but no parent", () -> x.unlink(0, 2), Due.STATE);
+        SenseNet y = Nets.of(2);
         for (int no : NO_SENSES) {
-            Due.is(4, "unlink(" + no + ", 0)", () -> y.unlink(no, 0), OUT);
-            Due.is(4, "unlink(0, " + no + ")", () -> y.unlink(0, no), OUT);
+            Due.is(4, "unlink(" + no + ", 0)", () -> y.unlink(no, 0), Due.OUT);
+            Due.is(4, "unlink(0, " + no + ")", () -> y.unlink(0, no), Due.OUT);
         }
     }
 
     private static void remove() {
-        SenseNet x = net(7);
+        SenseNet x = Nets.of(7);
         x.link(0, 2);
         x.link(1, 2);
         x.link(1, 3);
@@ -169,20 +148,20 @@ public final class PromisesTest {
         Due.is(5, "so it does from walks", () -> x.massByWalks(4), 1);
         Due.is(5, "and from the whole", () -> x.likeness(1, 1, 2), 0);
         Due.is(5, "senses", x::senses, 0b1111011);
-        Due.is(5, "again", () -> x.remove(2), OUT);
+        Due.is(5, "again", () -> x.remove(2), Due.OUT);
         Due.is(5, "a top", () -> x.remove(3), 3);
         Due.is(5, "parents below a top", () -> x.parents(5), 0);
         Due.is(5, "parents below a top, another left", () -> x.parents(1), 0b10000);
         Due.is(5, "no parent of any", () -> x.remove(6), 0);
         Due.is(5, "a bottom", () -> x.remove(0), 0);
-        SenseNet y = net(2);
+        SenseNet y = Nets.of(2);
         for (int no : NO_SENSES) {
-            Due.is(5, "remove(" + no + ")", () -> y.remove(no), OUT);
+            Due.is(5, "remove(" + no + ")", () -> y.remove(no), Due.OUT);
         }
     }
 
     private static void removeRefused() {
-        SenseNet x = net(8);
+        SenseNet x = Nets.of(8);
         for (int parent = 1; parent <= 4; parent++) {
             x.link(0, parent);
         }
@@ -191,12 +170,12 @@ public final class PromisesTest {
         x.link(7, 4);
         Due.is(5, "one for one, one had already", () -> x.parents(0), 0b11110);
         x.link(4, 6);
-        Due.is(5, "5 parents", () -> x.remove(4), STATE);
+        Due.is(5, "5 parents", () -> x.remove(4), Due.STATE);
         Due.is(5, "nothing changed", () -> x.parents(7), 0b10000);
         Due.is(5, "nothing changed there", x::senses, 0b11111111);
-        words(x, new int[] {5, 7});
-        Due.is(5, "a word has it", () -> x.remove(7), STATE);
-        Due.is(5, "a word has it, and children", () -> x.remove(5), STATE);
+        Nets.words(x, new int[] {5, 7});
+        Due.is(5, "a word has it", () -> x.remove(7), Due.STATE);
+        Due.is(5, "a word has it, and children", () -> x.remove(5), Due.STATE);
         x.unlink(4, 6);
         Due.is(5, "4 parents", () -> x.remove(4), 2);
         Due.is(5, "parents then", () -> x.parents(0), 0b101110);
@@ -205,70 +184,70 @@ public final class PromisesTest {
     }
 
     private static void setCount() {
-        SenseNet x = net(2);
+        SenseNet x = Nets.of(2);
         Due.is(6, "first", () -> x.setCount(0, 1000), 0);
         Due.is(6, "second", () -> x.setCount(0, 7), 1000);
-        Due.is(6, "too many", () -> x.setCount(0, 1001), ARGUMENT);
-        Due.is(6, "below zero", () -> x.setCount(0, -1), ARGUMENT);
-        Due.is(6, "least", () -> x.setCount(0, Integer.MIN_VALUE), ARGUMENT);
+        Due.is(6, "too many", () -> x.setCount(0, 1001), Due.ARGUMENT);
+        Due.is(6, "below zero", () -> x.setCount(0, -1), Due.ARGUMENT);
+        Due.is(6, "least", () -> x.setCount(0, Integer.MIN_VALUE), Due.ARGUMENT);
         Due.is(6, "kept", () -> x.mass(0), 7);
         Due.is(6, "zero", () -> x.setCount(0, 0), 7);
         Due.is(6, "the other one", () -> x.setCount(1, 3), 0);
         for (int no : NO_SENSES) {
-            Due.is(6, "setCount(" + no + ", 1)", () -> x.setCount(no, 1), OUT);
-            Due.is(6, "setCount(" + no + ", -1)", () -> x.setCount(no, -1), OUT);
+            Due.is(6, "setCount(" + no + ", 1)", () -> x.setCount(no, 1), Due.OUT);
+            Due.is(6, "setCount(" + no + ", -1)", () -> x.setCount(no, -1), Due.OUT);
         }
     }
 
     private static void addWord() {
-        SenseNet x = net(1);
+        SenseNet x = Nets.of(1);
         for (int i = 0; i < 10; i++) {
             int number = i;
             Due.is(7, "addWord", x::addWord, number);
-            Due.is(7, "without senses", () -> x.say(number), STATE);
+            Due.is(7, "without senses", () -> x.say(number), Due.STATE);
             Due.is(7, "not locked", () -> x.lock(number, -1), -1);
         }
-        Due.is(7, "11th word", x::addWord, STATE);
-        Due.is(7, "no such word", () -> x.say(10), OUT);
+        Due.is(7, "11th word", x::addWord, Due.STATE);
+        Due.is(7, "no such word", () -> x.say(10), Due.OUT);
     }
 
     private static void give() {
-        SenseNet x = net(7);
-        words(x, new int[] {}, new int[] {});
+        SenseNet x = Nets.of(7);
+        Nets.words(x, new int[] {}, new int[] {});
         for (int i = 0; i < 5; i++) {
             int sense = 4 - i;
             Due.is(8, "give", () -> x.give(0, sense), i + 1);
-            Due.is(8, "give again", () -> x.give(0, sense), STATE);
+            Due.is(8, "give again", () -> x.give(0, sense), Due.STATE);
         }
-        Due.is(8, "sixth", () -> x.give(0, 5), STATE);
+        Due.is(8, "sixth", () -> x.give(0, 5), Due.STATE);
         Due.is(8, "the other word", () -> x.give(1, 5), 1);
         Due.is(8, "the same sense to two words", () -> x.give(1, 4), 2);
         x.remove(6);
-        Due.is(8, "removed sense", () -> x.give(1, 6), OUT);
+        Due.is(8, "removed sense", () -> x.give(1, 6), Due.OUT);
         for (int no : new int[] {-1, 7, 30, Integer.MAX_VALUE, Integer.MIN_VALUE}) {
-            Due.is(8, "give(0, " + no + ")", () -> x.give(0, no), OUT);
-            Due.is(8, "give(" + no + ", 0)", () -> x.give(no, 0), OUT);
+            Due.is(8, "give(0, " + no + ")", () -> x.give(0, no), Due.OUT);
+            Due.is(8, "give(" + no + ", 0)", () -> x.give(no, 0), Due.OUT);
         }
-        Due.is(8, "give(2, 0)", () -> x.give(2, 0), OUT);
+        Due.is(8, "give(2, 0)", () -> x.give(2, 0), Due.OUT);
         x.say(0);
         Due.is(8, "five choices", x::choices, 5);
         Due.is(8, "the first one given comes first", () -> x.chosen(0, 0), 4);
     }
 
     private static void take() {
-        SenseNet x = net(6);
-        words(x, new int[] {3, 1, 2}, new int[] {0});
+        SenseNet x = Nets.of(6);
+        Nets.words(x, new int[] {3, 1, 2}, new int[] {0});
         x.lock(0, 3);
-        Due.is(9, "a sense not had", () -> x.take(0, 0), STATE);
+        Due.is(9, "a sense not had", () -> x.take(0, 0), Due.STATE);
         Due.is(9, "take of another keeps the lock", () -> x.take(0, 1), 2);
         x.say(0);
         Due.is(9, "locked", x::choices, 1);
         Due.is(9, "take of the locked one", () -> x.take(0, 3), 1);
         Due.is(9, "not locked any more", () -> x.lock(0, -1), -1);
         Due.is(9, "the one that is left", () -> x.chosen(0, 0), 2);
-        Due.is(9, "the only one of a said word", () -> x.take(0, 2), STATE);
+        Due.is(9, "the only one of a said word", () -> x.take(0, 2), Due.STATE);
         Due.is(9, "the only one of a word not said", () -> x.take(1, 0), 0);
-        Due.is(9, "none is left", () -> x.take(1, 0), STATE);
+        Due.is(9, "none is left", () -> x.take(1, 0), Due.STATE);
         x.hush();
         Due.is(9, "after hush", () -> x.take(0, 2), 0);
         for (int sense : new int[] {5, 4, 3, 2, 1}) {
@@ -282,22 +261,22 @@ public final class PromisesTest {
         Due.is(9, "order", () -> x.chosen(0, 1), 4);
         x.take(0, 4);
         Due.is(9, "order after another", () -> x.chosen(0, 1), 2);
-        Due.is(9, "removed sense", () -> x.remove(3) * 0 + x.take(0, 3), OUT);
+        Due.is(9, "removed sense", () -> x.remove(3) * 0 + x.take(0, 3), Due.OUT);
         for (int no : new int[] {-1, 6, 30, Integer.MAX_VALUE, Integer.MIN_VALUE}) {
-            Due.is(9, "take(0, " + no + ")", () -> x.take(0, no), OUT);
-            Due.is(9, "take(" + no + ", 2)", () -> x.take(no, 2), OUT);
+            Due.is(9, "take(0, " + no + ")", () -> x.take(0, no), Due.OUT);
+            Due.is(9, "take(" + no + ", 2)", () -> x.take(no, 2), Due.OUT);
         }
     }
 
     private static void lock() {
-        SenseNet x = net(4);
-        words(x, new int[] {0, 1, 2}, new int[] {1, 3});
+        SenseNet x = Nets.of(4);
+        Nets.words(x, new int[] {0, 1, 2}, new int[] {1, 3});
         Due.is(10, "lock", () -> x.lock(0, 1), -1);
         Due.is(10, "lock to another", () -> x.lock(0, 2), 1);
-        Due.is(10, "a sense not had", () -> x.lock(0, 3), STATE);
-        Due.is(10, "no such sense", () -> x.lock(0, 4), STATE);
-        Due.is(10, "-2", () -> x.lock(0, -2), STATE);
-        Due.is(10, "greatest", () -> x.lock(0, Integer.MAX_VALUE), STATE);
+        Due.is(10, "a sense not had", () -> x.lock(0, 3), Due.STATE);
+        Due.is(10, "no such sense", () -> x.lock(0, 4), Due.STATE);
+        Due.is(10, "-2", () -> x.lock(0, -2), Due.STATE);
+        Due.is(10, "greatest", () -> x.lock(0, Integer.MAX_VALUE), Due.STATE);
         Due.is(10, "still locked", () -> x.lock(0, 2), 2);
         Due.is(10, "the other word is not", () -> x.lock(1, -1), -1);
         x.say(0);
@@ -309,32 +288,32 @@ public final class PromisesTest {
         Due.is(10, "unlock", () -> x.lock(0, -1), 2);
         Due.is(10, "unlocked", x::choices, 8);
         for (int no : new int[] {-1, 2, 10, Integer.MAX_VALUE, Integer.MIN_VALUE}) {
-            Due.is(10, "lock(" + no + ", -1)", () -> x.lock(no, -1), OUT);
-            Due.is(10, "lock(" + no + ", 9)", () -> x.lock(no, 9), OUT);
+            Due.is(10, "lock(" + no + ", -1)", () -> x.lock(no, -1), Due.OUT);
+            Due.is(10, "lock(" + no + ", 9)", () -> x.lock(no, 9), Due.OUT);
         }
     }
 
     private static void say() {
-        SenseNet x = net(2);
-        words(x, new int[] {0}, new int[] {});
-        Due.is(11, "no senses", () -> x.say(1), STATE);
+        SenseNet x = Nets.of(2);
+        Nets.words(x, new int[] {0}, new int[] {});
+        Due.is(11, "no senses", () -> x.say(1), Due.STATE);
         for (int i = 1; i <= 6; i++) {
             Due.is(11, "say", () -> x.say(0), i);
         }
-        Due.is(11, "7th place", () -> x.say(0), STATE);
+        Due.is(11, "7th place", () -> x.say(0), Due.STATE);
         Due.is(11, "places", () -> x.chosen(5, 0), 0);
-        Due.is(11, "no 7th place", () -> x.chosen(6, 0), OUT);
+        Due.is(11, "no 7th place", () -> x.chosen(6, 0), Due.OUT);
         for (int no : new int[] {-1, 2, 10, Integer.MAX_VALUE, Integer.MIN_VALUE}) {
-            Due.is(11, "say(" + no + ")", () -> x.say(no), OUT);
+            Due.is(11, "say(" + no + ")", () -> x.say(no), Due.OUT);
         }
         x.hush();
         x.take(0, 0);
-        Due.is(11, "no senses any more", () -> x.say(0), STATE);
+        Due.is(11, "no senses any more", () -> x.say(0), Due.STATE);
     }
 
     private static void hush() {
-        SenseNet x = net(2);
-        words(x, new int[] {0, 1});
+        SenseNet x = Nets.of(2);
+        Nets.words(x, new int[] {0, 1});
         Due.is(12, "empty", x::hush, 0);
         x.say(0);
         x.say(0);
@@ -342,12 +321,12 @@ public final class PromisesTest {
         Due.is(12, "again", x::hush, 0);
         Due.is(12, "choices", x::choices, 1);
         Due.is(12, "worth", () -> x.bestWorth(0), 0);
-        Due.is(12, "no place", () -> x.chosen(0, 0), OUT);
+        Due.is(12, "no place", () -> x.chosen(0, 0), Due.OUT);
         Due.is(12, "words stay", () -> x.say(0), 1);
     }
 
     private static void sensesAndParents() {
-        SenseNet x = net(30);
+        SenseNet x = Nets.of(30);
         x.link(0, 29);
         x.link(0, 1);
         x.link(1, 28);
@@ -357,34 +336,34 @@ public final class PromisesTest {
         x.remove(29);
         Due.is(13, "one removed", x::senses, 0x1fffffff);
         Due.is(14, "a parent removed", () -> x.parents(0), 1 << 1);
-        Due.is(14, "removed", () -> x.parents(29), OUT);
+        Due.is(14, "removed", () -> x.parents(29), Due.OUT);
         for (int no : new int[] {-1, 30, 31, 32, 61, Integer.MAX_VALUE, Integer.MIN_VALUE}) {
-            Due.is(14, "parents(" + no + ")", () -> x.parents(no), OUT);
-            Due.is(15, "above(" + no + ")", () -> x.above(no), OUT);
-            Due.is(16, "below(" + no + ")", () -> x.below(no), OUT);
-            Due.is(17, "mass(" + no + ")", () -> x.mass(no), OUT);
-            Due.is(18, "massByWalks(" + no + ")", () -> x.massByWalks(no), OUT);
-            Due.is(19, "depth(" + no + ")", () -> x.depth(no), OUT);
-            Due.is(20, "shared(" + no + ", 0)", () -> x.shared(no, 0), OUT);
-            Due.is(20, "shared(0, " + no + ")", () -> x.shared(0, no), OUT);
-            Due.is(21, "distance(" + no + ", 0)", () -> x.distance(no, 0), OUT);
-            Due.is(21, "distance(0, " + no + ")", () -> x.distance(0, no), OUT);
-            Due.is(22, "likeness(" + no + ", 0, 0)", () -> x.likeness(no, 0, 0), OUT);
-            Due.is(22, "likeness(0, " + no + ", 3)", () -> x.likeness(0, no, 3), OUT);
+            Due.is(14, "parents(" + no + ")", () -> x.parents(no), Due.OUT);
+            Due.is(15, "above(" + no + ")", () -> x.above(no), Due.OUT);
+            Due.is(16, "below(" + no + ")", () -> x.below(no), Due.OUT);
+            Due.is(17, "mass(" + no + ")", () -> x.mass(no), Due.OUT);
+            Due.is(18, "massByWalks(" + no + ")", () -> x.massByWalks(no), Due.OUT);
+            Due.is(19, "depth(" + no + ")", () -> x.depth(no), Due.OUT);
+            Due.is(20, "shared(" + no + ", 0)", () -> x.shared(no, 0), Due.OUT);
+            Due.is(20, "shared(0, " + no + ")", () -> x.shared(0, no), Due.OUT);
+            Due.is(21, "distance(" + no + ", 0)", () -> x.distance(no, 0), Due.OUT);
+            Due.is(21, "distance(0, " + no + ")", () -> x.distance(0, no), Due.OUT);
+            Due.is(22, "likeness(" + no + ", 0, 0)", () -> x.likeness(no, 0, 0), Due.OUT);
+            Due.is(22, "likeness(0, " + no + ", 3)", () -> x.likeness(0, no, 3), Due.OUT);
         }
-        Due.is(15, "removed", () -> x.above(29), OUT);
-        Due.is(16, "removed", () -> x.below(29), OUT);
-        Due.is(17, "removed", () -> x.mass(29), OUT);
-        Due.is(18, "removed", () -> x.massByWalks(29), OUT);
-        Due.is(19, "removed", () -> x.depth(29), OUT);
-        Due.is(20, "removed", () -> x.shared(0, 29), OUT);
-        Due.is(21, "removed", () -> x.distance(29, 29), OUT);
-        Due.is(22, "removed", () -> x.likeness(29, 0, 0), OUT);
+        Due.is(15, "removed", () -> x.above(29), Due.OUT);
+        Due.is(16, "removed", () -> x.below(29), Due.OUT);
+        Due.is(17, "removed", () -> x.mass(29), Due.OUT);
+        Due.is(18, "removed", () -> x.massByWalks(29), Due.OUT);
+        Due.is(19, "removed", () -> x.depth(29), Due.OUT);
+        Due.is(20, "removed", () -> x.shared(0, 29), Due.OUT);
+        Due.is(21, "removed", () -> x.distance(29, 29), Due.OUT);
+        Due.is(22, "removed", () -> x.likeness(29, 0, 0), Due.OUT);
     }
 
     /** 0 below 1 and 2, both below 3; 3 and 5 below 4. */
     private static SenseNet diamond() {
-        SenseNet x = net(6);
+        SenseNet x = Nets.of(6);
         x.link(0, 1);
         x.link(0, 2);
         x.link(1, 3);
@@ -430,7 +409,7 @@ public final class PromisesTest {
     }
 
     private static void depth() {
-        SenseNet x = net(6);
+        SenseNet x = Nets.of(6);
         Due.is(19, "alone", () -> x.depth(0), 0);
         x.link(0, 1);
         x.link(1, 2);
@@ -457,7 +436,7 @@ public final class PromisesTest {
         Due.is(20, "far", () -> x.shared(0, 5), 4);
         x.unlink(5, 4);
         Due.is(20, "none", () -> x.shared(0, 5), -1);
-        SenseNet y = net(5);
+        SenseNet y = Nets.of(5);
         y.link(0, 2);
         y.link(1, 2);
         y.link(0, 3);
@@ -470,7 +449,7 @@ public final class PromisesTest {
     }
 
     private static void sharedTies() {
-        SenseNet x = net(6);
+        SenseNet x = Nets.of(6);
         x.link(0, 2);
         x.link(1, 2);
         x.link(0, 3);
@@ -480,11 +459,11 @@ public final class PromisesTest {
         x.setCount(5, 1);
         x.link(5, 3);
         Due.is(20, "mass goes before depth", () -> x.shared(0, 1), 2);
-        SenseNet y = net(2);
+        SenseNet y = Nets.of(2);
         y.link(0, 1);
         y.setCount(0, 8);
         Due.is(20, "same mass above itself", () -> y.shared(0, 0), 0);
-        SenseNet z = net(5);
+        SenseNet z = Nets.of(5);
         z.link(0, 1);
         z.link(1, 2);
         z.link(2, 3);
@@ -505,7 +484,7 @@ public final class PromisesTest {
         Due.is(21, "not by the shared sense", () -> x.distance(0, 3), 2);
         x.unlink(5, 4);
         Due.is(21, "none", () -> x.distance(0, 5), -1);
-        SenseNet y = net(6);
+        SenseNet y = Nets.of(6);
         y.link(0, 2);
         y.link(2, 3);
         y.link(1, 3);
@@ -536,14 +515,14 @@ public final class PromisesTest {
             Due.is(22, "none covers both", () -> x.likeness(0, 5, by), 0);
         }
         for (int no : NO_MEASURES) {
-            Due.is(22, "measure " + no, () -> x.likeness(0, 5, no), ARGUMENT);
-            Due.is(22, "no sense and measure " + no, () -> x.likeness(6, 0, no), OUT);
-            Due.is(22, "no other sense and measure " + no, () -> x.likeness(0, 6, no), OUT);
+            Due.is(22, "measure " + no, () -> x.likeness(0, 5, no), Due.ARGUMENT);
+            Due.is(22, "no sense and measure " + no, () -> x.likeness(6, 0, no), Due.OUT);
+            Due.is(22, "no other sense and measure " + no, () -> x.likeness(0, 6, no), Due.OUT);
         }
     }
 
     private static void likenessEdges() {
-        SenseNet x = net(30);
+        SenseNet x = Nets.of(30);
         Due.is(22, "the whole is 0", () -> x.likeness(0, 0, 2), 0);
         for (int i = 0; i < 30; i++) {
             x.setCount(i, 1000);
@@ -556,8 +535,8 @@ public final class PromisesTest {
     }
 
     private static void choices() {
-        SenseNet x = net(5);
-        words(x, new int[] {0, 1, 2, 3, 4}, new int[] {0, 1}, new int[] {3});
+        SenseNet x = Nets.of(5);
+        Nets.words(x, new int[] {0, 1, 2, 3, 4}, new int[] {0, 1}, new int[] {3});
         x.say(0);
         Due.is(23, "one place", x::choices, 5);
         x.say(1);
@@ -580,7 +559,7 @@ public final class PromisesTest {
 
     private static void worths() {
         SenseNet x = diamond();
-        words(x, new int[] {0, 5}, new int[] {1, 2}, new int[] {5, 4});
+        Nets.words(x, new int[] {0, 5}, new int[] {1, 2}, new int[] {5, 4});
         x.say(0);
         for (int measure = 0; measure < 3; measure++) {
             int by = measure;
@@ -603,19 +582,19 @@ public final class PromisesTest {
         Due.is(26, "first of the same worth", () -> x.chosen(0, 0), 0);
         Due.is(26, "the locked one", () -> x.chosen(2, 0), 4);
         for (int no : NO_MEASURES) {
-            Due.is(24, "measure " + no, () -> x.bestWorth(no), ARGUMENT);
-            Due.is(25, "measure " + no, () -> x.greatestWorth(no), ARGUMENT);
-            Due.is(26, "measure " + no, () -> x.chosen(0, no), ARGUMENT);
-            Due.is(26, "no place and measure " + no, () -> x.chosen(3, no), OUT);
+            Due.is(24, "measure " + no, () -> x.bestWorth(no), Due.ARGUMENT);
+            Due.is(25, "measure " + no, () -> x.greatestWorth(no), Due.ARGUMENT);
+            Due.is(26, "measure " + no, () -> x.chosen(0, no), Due.ARGUMENT);
+            Due.is(26, "no place and measure " + no, () -> x.chosen(3, no), Due.OUT);
         }
         for (int no : new int[] {-1, 3, 6, Integer.MAX_VALUE, Integer.MIN_VALUE}) {
-            Due.is(26, "place " + no, () -> x.chosen(no, 0), OUT);
+            Due.is(26, "place " + no, () -> x.chosen(no, 0), Due.OUT);
         }
     }
 
     private static void greatestAskedFirst() {
         SenseNet x = diamond();
-        words(x, new int[] {0, 3, 5}, new int[] {1, 5}, new int[] {2, 4});
+        Nets.words(x, new int[] {0, 3, 5}, new int[] {1, 5}, new int[] {2, 4});
         for (int word = 0; word < 3; word++) {
             x.say(word);
         }
@@ -625,8 +604,8 @@ public final class PromisesTest {
     }
 
     private static void ties() {
-        SenseNet x = net(4);
-        words(x, new int[] {2, 0, 1}, new int[] {3, 1, 0});
+        SenseNet x = Nets.of(4);
+        Nets.words(x, new int[] {2, 0, 1}, new int[] {3, 1, 0});
         x.say(0);
         x.say(1);
         Due.is(24, "two of the same worth", () -> x.bestWorth(0), 10000);
@@ -643,11 +622,11 @@ public final class PromisesTest {
     }
 
     private static void sameWordTwice() {
-        SenseNet x = net(3);
+        SenseNet x = Nets.of(3);
         x.link(0, 2);
         x.setCount(0, 1);
         x.setCount(1, 8);
-        words(x, new int[] {2, 0}, new int[] {1});
+        Nets.words(x, new int[] {2, 0}, new int[] {1});
         x.say(0);
         x.say(0);
         Due.is(24, "a word with itself", () -> x.bestWorth(0), 10000);
@@ -658,7 +637,7 @@ public final class PromisesTest {
     }
 
     private static void longestSentence() {
-        SenseNet x = net(30);
+        SenseNet x = Nets.of(30);
         for (int word = 0; word < 6; word++) {
             x.addWord();
             for (int rank = 0; rank < 5; rank++) {
@@ -679,14 +658,14 @@ public final class PromisesTest {
     }
 
     private static void longestChain() {
-        SenseNet x = net(30);
+        SenseNet x = Nets.of(30);
         for (int sense = 0; sense < 29; sense++) {
             x.link(sense, sense + 1);
         }
         for (int sense = 0; sense < 30; sense++) {
             x.setCount(sense, 1000);
         }
-        Due.is(3, "the top below the bottom", () -> x.link(29, 0), STATE);
+        Due.is(3, "the top below the bottom", () -> x.link(29, 0), Due.STATE);
         Due.is(15, "above", () -> x.above(0), 0x3ffffffe);
         Due.is(16, "below", () -> x.below(29), 0x1fffffff);
         Due.is(17, "mass", () -> x.mass(29), 30000);
