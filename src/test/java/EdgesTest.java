@@ -32,6 +32,7 @@ public final class EdgesTest {
         choices();
         fewerThanTwoPlaces();
         bothWorths();
+        shorterSentence();
         chosen();
         the512thCall();
         Due.end();
@@ -582,6 +583,26 @@ public final class EdgesTest {
         Due.is("no worth in a single choice", () -> x.bestWorth(0), 0);
         Due.is("no worth in a single choice, all tried", () -> x.greatestWorth(0), 0);
         Due.is("it is the best one", () -> x.chosen(3, 0), 5);
+    }
+
+    private static void shorterSentence() {
+        Due.sentence("12: Empties the sentence.");
+        SenseNet x = Nets.of(4);
+        Nets.words(x, Nets.row(0, 1), Nets.row(2, 3));
+        Nets.say(x, 0, 0, 0, 0, 0, 0);
+        Due.is("six places", () -> x.bestWorth(0), 150000);
+        for (int places = 5; places > 0; places--) {
+            x.hush();
+            for (int place = 1; place < places; place++) {
+                x.say(0);
+            }
+            x.say(1);
+            int last = places - 1;
+            Due.is(places + " places after more", () -> x.bestWorth(0), last * (last - 1) / 2 * 10000);
+            Due.is(places + " places, all tried", () -> x.greatestWorth(0), last * (last - 1) / 2 * 10000);
+            Due.is("the first one's sense", () -> x.chosen(0, 0), last == 0 ? 2 : 0);
+            Due.is("the last one's sense", () -> x.chosen(last, 0), 2);
+        }
     }
 
     private static void chosen() {

@@ -531,6 +531,13 @@ public final class TermsTest {
         Due.is("its first place", () -> y.chosen(0, 0), 28);
         Due.is("its fifth place", () -> y.chosen(4, 0), 28);
         Due.is("its sixth place", () -> y.chosen(5, 0), 29);
+        y.hush();
+        Nets.say(y, 5, 4, 3, 2, 1, 0);
+        Due.is("the words turned round", () -> y.bestWorth(0), 10 * 10000 + 5 * 5000);
+        Due.is("the words turned round, all tried", () -> y.greatestWorth(0), 10 * 10000 + 5 * 5000);
+        Due.is("its first place", () -> y.chosen(0, 0), 29);
+        Due.is("its second place", () -> y.chosen(1, 0), 28);
+        Due.is("its sixth place", () -> y.chosen(5, 0), 28);
     }
 
     private static void theFirstOfSeveral() {
