@@ -1,9 +1,14 @@
+import java.io.IOException;
 import java.lang.reflect.Constructor;
 import java.lang.reflect.Field;
 import java.lang.reflect.Method;
 import java.lang.reflect.Modifier;
+import java.nio.file.Files;
+import java.nio.file.Path;
 import java.util.Set;
 import java.util.TreeSet;
+import java.util.regex.Matcher;
+import java.util.regex.Pattern;
 
 /** The face is the document's, with its throws clauses in their order, and nothing beside it. */
 public final class FaceTest {
@@ -39,7 +44,13 @@ public final class FaceTest {
         "chosen 2 " + OUT + " " + ARGUMENT,
     };
 
-    public static void main(String[] args) {
+    private static final String ORDER = "---- senses: addSense link unlink remove setCount"
+            + " ---- words and the sentence: addWord give take lock say hush"
+            + " ---- the net; nothing from here on changes anything: senses parents above below mass massByWalks"
+            + " depth shared distance likeness"
+            + " ---- choices: choices bestWorth greatestWorth chosen";
+
+    public static void main(String[] args) throws IOException {
         Set<String> want = new TreeSet<>(Set.of(FACE));
         Set<String> got = new TreeSet<>();
         for (Method method : SenseNet.class.getDeclaredMethods()) {
@@ -65,7 +76,18 @@ public final class FaceTest {
                 check(inside.getName() + "." + method.getName() + " bears no public name", !isOfFace(method));
             }
         }
+        Due.compare("the headings and calls", order(Files.readString(Path.of("src/main/java/SenseNet.java"))), ORDER);
         Due.end();
+    }
+
+    /** What the face says ahead of its calls, and the calls, as they stand in the file. */
+    private static String order(String source) {
+        StringBuilder text = new StringBuilder();
+        Matcher found = Pattern.compile("(?m)^    (?:// (---- .*)|public int (\\w+)\\()").matcher(source);
+        while (found.find()) {
+            text.append(' ').append(found.group(1) != null ? found.group(1) + ":" : found.group(2));
+        }
+        return text.toString().strip();
     }
 
     private static String written(Method method) {
